@@ -164,12 +164,6 @@ public final class TellingTest {
     }
 
     private static void whatIsRefusedLeavesColours() {
-        MaskParts x = Scenes.full();
-        x.run(4, 50);
-        CHECK.same("spent", 50, x.steps());
-        x.pre(0, 0, 0);
-        x.distance(1);
-        CHECK.noArgument("distance", () -> x.distance(0));
         MaskParts y = Scenes.shapes(10);
         for (int i = 0; i < 4; i++) {
             y.box(0, 0, 0, 1, 1);
