@@ -3,17 +3,24 @@ import java.util.function.Function;
 /** Long runs of calls of all kinds, right and wrong ones, on the program and on the plain model. */
 public final class AgainstModelTest {
     private static final int OBJECTS = 400;
+    private static final int LATTICES = 600;
     private static final int CALLS = 512;
 
     private final Check check = new Check();
     private long state = 20261115L;
     private int object;
+    private int spread;
+    private int most;
 
     public static void main(String[] args) {
         AgainstModelTest test = new AgainstModelTest();
         for (int i = 0; i < OBJECTS; i++) {
             test.object = i;
             test.oneObject();
+        }
+        for (int i = 0; i < LATTICES; i++) {
+            test.object = OBJECTS + i;
+            test.oneLattice();
         }
         test.check.end();
     }
@@ -26,23 +33,77 @@ public final class AgainstModelTest {
     private void oneObject() {
         MaskParts x = new MaskParts();
         PlainModel m = new PlainModel();
-        int spread = pick(1, 6) * pick(1, 10);
-        int most = pick(2, 10);
+        spread = pick(1, 10) * pick(1, 12);
+        most = pick(2, 10);
         for (int i = 0; i < CALLS; i++) {
-            if (pick(1, 100) <= (i < 120 ? 70 : 10)) {
-                tell(x, m, spread, most);
+            if (pick(1, 100) <= (i < 120 ? 70 : 6)) {
+                tell(x, m);
             } else {
                 ask(x, m);
             }
         }
     }
 
-    private void tell(MaskParts x, PlainModel m, int spread, int most) {
+    /** On a lattice only neighbours are near, so that the shortest odd ring is often a long one. */
+    private void oneLattice() {
+        MaskParts x = new MaskParts();
+        PlainModel m = new PlainModel();
+        both("distance", x, m, o -> (long) o.distance(4), o -> (long) o.distance(4));
+        spread = pick(4, 7);
+        for (int i = 0; i < 10; i++) {
+            both("shape", x, m, o -> (long) o.shape(), o -> (long) o.shape());
+        }
+        fillLattice(x, m);
+        compareRings(x, m);
+        for (int colours = 2; colours <= 3; colours++) {
+            int c = colours;
+            both("run " + c, x, m, o -> (long) o.run(c, 3000), o -> (long) o.run(c, 3000));
+            both("used", x, m, o -> (long) o.used(), o -> (long) o.used());
+            both("steps", x, m, o -> (long) o.steps(), o -> (long) o.steps());
+        }
+    }
+
+    private void fillLattice(MaskParts x, PlainModel m) {
+        boolean[] taken = new boolean[100];
+        int boxes = 0;
+        for (int i = 0; i < 200 && boxes < 40; i++) {
+            int site = 10 * pick(0, spread) + pick(0, spread);
+            boolean wide = pick(1, 12) == 1;
+            if (taken[site] || wide && taken[site + 1]) {
+                continue;
+            }
+            taken[site] = true;
+            taken[site + 1] |= wide;
+            int shape = boxes % 10;
+            int box = boxes / 10;
+            boxes++;
+            int ax = 4 * (site % 10);
+            int ay = 4 * (site / 10);
+            int bx = ax + (wide ? 5 : 1);
+            boolean may = pick(1, 30) > 1;
+            both("box", x, m, o -> (long) o.box(shape, ax, ay, bx, ay + 1),
+                    o -> (long) o.box(shape, ax, ay, bx, ay + 1));
+            both("stitch", x, m, o -> o.stitch(shape, box, may) ? 1L : 0L,
+                    o -> o.stitch(shape, box, may) ? 1L : 0L);
+        }
+    }
+
+    private void compareRings(MaskParts x, PlainModel m) {
+        int length = m.ring();
+        both("ring", x, m, o -> (long) o.ring(), o -> (long) length);
+        both("groups", x, m, o -> (long) o.groups(), o -> (long) o.groups());
+        for (int i = -1; i <= length; i++) {
+            int k = i;
+            both("ringAt " + k, x, m, o -> (long) o.ringAt(k), o -> (long) o.ringAt(k));
+        }
+    }
+
+    private void tell(MaskParts x, PlainModel m) {
         int shape = pick(1, 30) == 1 ? pick(-1, 10) : pick(0, Math.max(0, m.told(0) - 1));
         int box = pick(1, 30) == 1 ? pick(-1, 4) : pick(0, 3);
         switch (pick(0, 11)) {
             case 0:
-                int d = pick(1, 8) == 1 ? pick(-1, 1002) : pick(1, 9);
+                int d = pick(1, 30) == 1 ? pick(-1, 1002) : pick(1, 9);
                 both("distance " + d, x, m, o -> (long) o.distance(d), o -> (long) o.distance(d));
                 break;
             case 1, 2, 3:
@@ -53,8 +114,8 @@ public final class AgainstModelTest {
             case 4, 5, 6, 7:
                 int ax = pick(0, spread);
                 int ay = pick(0, spread);
-                int bx = pick(1, 20) == 1 ? pick(-10002, 10002) : ax + pick(1, 4);
-                int by = pick(1, 20) == 1 ? pick(-10002, 10002) : ay + pick(1, 4);
+                int bx = pick(1, 50) == 1 ? pick(-10002, 10002) : ax + pick(1, 4);
+                int by = pick(1, 50) == 1 ? pick(-10002, 10002) : ay + pick(1, 4);
                 both("box " + shape + " " + ax + " " + ay + " " + bx + " " + by, x, m,
                         o -> (long) o.box(shape, ax, ay, bx, by), o -> (long) o.box(shape, ax, ay, bx, by));
                 break;
@@ -76,12 +137,14 @@ public final class AgainstModelTest {
         int k = pick(-1, pick(0, 12));
         switch (pick(0, 11)) {
             case 0:
-                both("part " + shape + " " + box, x, m, o -> (long) o.part(shape, box), o -> (long) o.part(shape, box));
+                both("part " + shape + " " + box, x, m,
+                        o -> (long) o.part(shape, box), o -> (long) o.part(shape, box));
                 break;
             case 1:
                 int at = pick(-1, m.told(3));
                 int which = pick(0, 9) == 0 ? pick(-1, 2) : pick(0, 1);
-                both("pair " + at + " " + which, x, m, o -> (long) o.pair(at, which), o -> (long) o.pair(at, which));
+                both("pair " + at + " " + which, x, m,
+                        o -> (long) o.pair(at, which), o -> (long) o.pair(at, which));
                 break;
             case 2, 3:
                 int colours = pick(0, 30) == 0 ? pick(1, 5) : pick(2, 4);
