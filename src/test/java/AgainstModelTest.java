@@ -1,6 +1,6 @@
 import java.util.function.Function;
 
-/** Long runs of calls of all kinds, right and wrong ones, on the program and on the plain model. */
+/** All promises: long runs of calls of all kinds, right and wrong ones, on the program and on the plain model. */
 public final class AgainstModelTest {
     private static final int OBJECTS = 400;
     private static final int LATTICES = 600;
@@ -9,6 +9,7 @@ public final class AgainstModelTest {
     private final Check check = new Check();
     private long state = 20261115L;
     private int object;
+    private int calls;
     private int spread;
     private int most;
 
@@ -35,6 +36,7 @@ public final class AgainstModelTest {
         PlainModel m = new PlainModel();
         spread = pick(1, 10) * pick(1, 12);
         most = pick(2, 10);
+        calls = 0;
         for (int i = 0; i < CALLS; i++) {
             if (pick(1, 100) <= (i < 120 ? 70 : 6)) {
                 tell(x, m);
@@ -48,6 +50,7 @@ public final class AgainstModelTest {
     private void oneLattice() {
         MaskParts x = new MaskParts();
         PlainModel m = new PlainModel();
+        calls = 0;
         both("distance", x, m, o -> (long) o.distance(4), o -> (long) o.distance(4));
         spread = pick(4, 7);
         for (int i = 0; i < 10; i++) {
@@ -57,7 +60,8 @@ public final class AgainstModelTest {
         compareRings(x, m);
         for (int colours = 2; colours <= 3; colours++) {
             int c = colours;
-            both("run " + c, x, m, o -> (long) o.run(c, 3000), o -> (long) o.run(c, 3000));
+            int steps = object % 40 == 0 ? 20000 : 3000;
+            both("run " + c, x, m, o -> (long) o.run(c, steps), o -> (long) o.run(c, steps));
             both("used", x, m, o -> (long) o.used(), o -> (long) o.used());
             both("steps", x, m, o -> (long) o.steps(), o -> (long) o.steps());
         }
@@ -181,6 +185,11 @@ public final class AgainstModelTest {
 
     private void both(String what, MaskParts x, PlainModel m,
             Function<MaskParts, Long> call, Function<PlainModel, Long> modelCall) {
+        // What calls behind the 512th answer is free.
+        if (calls == CALLS) {
+            return;
+        }
+        calls++;
         String got = outcome(x, call);
         String due = outcome(m, modelCall);
         if (!got.equals(due)) {
@@ -191,8 +200,6 @@ public final class AgainstModelTest {
     private static <T> String outcome(T object, Function<T, Long> call) {
         try {
             return call.apply(object).toString();
-        } catch (IndexOutOfBoundsException e) {
-            return "IndexOutOfBoundsException";
         } catch (RuntimeException e) {
             return e.getClass().getSimpleName();
         }

@@ -12,6 +12,16 @@ final class Check {
         }
     }
 
+    void same(String what, String due, String got) {
+        if (!due.equals(got)) {
+            say(what + " is " + got + ", due is " + due);
+        }
+    }
+
+    void same(String what, boolean due, boolean got) {
+        same(what, due ? 1 : 0, got ? 1 : 0);
+    }
+
     void answers(String what, long due, Call call) {
         same(what, due, valueOf(what, call));
     }

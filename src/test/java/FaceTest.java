@@ -18,17 +18,17 @@ public final class FaceTest {
         Check check = new Check();
         Set<String> got = new TreeSet<>();
         for (Field f : MaskParts.class.getDeclaredFields()) {
-            if (isSeen(f.getModifiers())) {
+            if (isSeen(f.getModifiers(), f.isSynthetic())) {
                 got.add(f.getType() + " " + f.getName());
             }
         }
         for (Constructor<?> c : MaskParts.class.getDeclaredConstructors()) {
-            if (isSeen(c.getModifiers())) {
+            if (isSeen(c.getModifiers(), c.isSynthetic())) {
                 got.add(c.getName() + types(c.getParameterTypes()));
             }
         }
         for (Method m : MaskParts.class.getDeclaredMethods()) {
-            if (isSeen(m.getModifiers())) {
+            if (isSeen(m.getModifiers(), m.isSynthetic())) {
                 got.add(m.getReturnType() + " " + m.getName() + types(m.getParameterTypes()));
             }
         }
@@ -39,8 +39,8 @@ public final class FaceTest {
         check.end();
     }
 
-    private static boolean isSeen(int modifiers) {
-        return !Modifier.isPrivate(modifiers);
+    private static boolean isSeen(int modifiers, boolean isMadeByTheCompiler) {
+        return !Modifier.isPrivate(modifiers) && !isMadeByTheCompiler;
     }
 
     private static String types(Class<?>[] types) {

@@ -3,14 +3,14 @@ public final class RingTest {
     private static final Check CHECK = new Check();
 
     public static void main(String[] args) {
-        ringOfThree();
-        noOddRing();
-        ringOfFive();
-        shortestComesFirst();
-        leastRowOfSeveral();
-        ringOverStitchedParts();
-        ringNeedsNoRunAndKeepsIt();
-        longestRing();
+        promise14RingOfThree();
+        promise14NoOddRing();
+        promise14RingOfFive();
+        promise14ShortestComesFirst();
+        promise15LeastRowOfSeveral();
+        promise14RingOverStitchedParts();
+        promise14RingNeedsNoRunAndKeepsIt();
+        promise15LongestRing();
         CHECK.end();
     }
 
@@ -25,12 +25,12 @@ public final class RingTest {
         CHECK.noIndex(what + ": far place", () -> x.ringAt(Integer.MAX_VALUE));
     }
 
-    private static void ringOfThree() {
+    private static void promise14RingOfThree() {
         checkRing("triangle", Scenes.triangle(), 0, 1, 2);
         checkRing("behind a part alone", Scenes.dots(2, 50, 50, 0, 0, 2, 0, 1, 2), 1, 2, 3);
     }
 
-    private static void noOddRing() {
+    private static void promise14NoOddRing() {
         checkRing("nothing", new MaskParts());
         checkRing("one", Scenes.dots(5, 0, 0));
         checkRing("two", Scenes.dots(5, 0, 0, 0, 0));
@@ -39,7 +39,7 @@ public final class RingTest {
         checkRing("four in a square", Scenes.dots(4, 0, 0, 4, 0, 4, 4, 0, 4));
     }
 
-    private static void ringOfFive() {
+    private static void promise14RingOfFive() {
         MaskParts x = Scenes.shapes(5);
         x.distance(3);
         x.box(0, 0, 0, 2, 2);
@@ -50,7 +50,7 @@ public final class RingTest {
         checkRing("five", x, 0, 2, 1, 3, 4);
     }
 
-    private static void shortestComesFirst() {
+    private static void promise14ShortestComesFirst() {
         MaskParts x = Scenes.shapes(8);
         x.distance(3);
         x.box(0, 0, 0, 2, 2);
@@ -67,7 +67,7 @@ public final class RingTest {
         checkRing("they still overlap", x, 5, 6, 7);
     }
 
-    private static void leastRowOfSeveral() {
+    private static void promise15LeastRowOfSeveral() {
         MaskParts x = Scenes.dots(5, 0, 0, 0, 0, 0, 0, 0, 0);
         checkRing("all four are near", x, 0, 1, 2);
         // Part 0 is near to all but 1, so the least row leaves 1 out.
@@ -75,7 +75,7 @@ public final class RingTest {
         checkRing("1 is far from 0", y, 0, 2, 3);
     }
 
-    private static void ringOverStitchedParts() {
+    private static void promise14RingOverStitchedParts() {
         MaskParts x = Scenes.shapes(3);
         x.distance(3);
         x.box(0, 0, 0, 1, 1);
@@ -93,7 +93,7 @@ public final class RingTest {
         checkRing("colours do not matter", x, 0, 1, 2);
     }
 
-    private static void ringNeedsNoRunAndKeepsIt() {
+    private static void promise14RingNeedsNoRunAndKeepsIt() {
         MaskParts x = Scenes.triangle();
         x.run(3, 100);
         CHECK.same("ring behind a run", 3, x.ring());
@@ -103,7 +103,7 @@ public final class RingTest {
     }
 
     /** 39 parts round a square; the one that is twice as long makes the number odd. */
-    private static void longestRing() {
+    private static void promise15LongestRing() {
         MaskParts x = Scenes.shapes(10);
         x.distance(4);
         int[] due = new int[39];

@@ -11,8 +11,8 @@ public final class TellingTest {
         promise4WhichExceptionComesFirst();
         promise5Stitch();
         promise6Pre();
-        whatIsToldTakesColoursAway();
-        whatIsRefusedLeavesColours();
+        promises2To6WhatIsToldTakesColoursAway();
+        promises2To9WhatIsRefusedLeavesColours();
         CHECK.end();
     }
 
@@ -144,7 +144,7 @@ public final class TellingTest {
         CHECK.same("colour told to its part's other box", 2, x.colour(0, 1));
     }
 
-    private static void whatIsToldTakesColoursAway() {
+    private static void promises2To6WhatIsToldTakesColoursAway() {
         Check.Call[] tellings = new Check.Call[5];
         for (int i = 0; i < tellings.length; i++) {
             MaskParts x = Scenes.triangle();
@@ -163,7 +163,7 @@ public final class TellingTest {
         }
     }
 
-    private static void whatIsRefusedLeavesColours() {
+    private static void promises2To9WhatIsRefusedLeavesColours() {
         MaskParts y = Scenes.shapes(10);
         for (int i = 0; i < 4; i++) {
             y.box(0, 0, 0, 1, 1);
