@@ -140,11 +140,13 @@ public final class MaskParts {
     }
 
     public int ring() {
+        net.refresh();
         oddRing.refresh();
         return oddRing.length;
     }
 
     public int ringAt(int k) throws IndexOutOfBoundsException {
+        net.refresh();
         oddRing.refresh();
         if (k < 0 || k >= oddRing.length) {
             throw new IndexOutOfBoundsException("no such place in the ring");
@@ -518,8 +520,8 @@ public final class MaskParts {
             this.net = net;
         }
 
+        /** The net must be fresh. */
         void refresh() {
-            net.refresh();
             if (!fresh) {
                 find();
                 fresh = true;
